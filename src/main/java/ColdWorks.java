@@ -376,7 +376,7 @@ public final class ColdWorks {
 
     private int oneTick() {
         ticksEver++;
-        adsorbers.goOn();
+        adsorbers.regenerate();
         return controls.passTick() ? flow() : 0;
     }
 
@@ -405,8 +405,8 @@ public final class ColdWorks {
     /** The balance: MADE is all the other meters together. */
     private long toldByOthers(int meter) {
         long others = 0;
-        for (int i = 0; i < METERS; i++) {
-            if (i != MADE && i != meter) {
+        for (int i = MADE + 1; i < METERS; i++) {
+            if (i != meter) {
                 others += store.reading(i);
             }
         }
@@ -434,15 +434,13 @@ public final class ColdWorks {
         }
 
         int coldAt(int drop) {
-            return super.coldAt(drop) + between(drop / STEP, drop % STEP);
+            int k = drop / STEP;
+            int r = drop % STEP;
+            return super.coldAt(drop) + ((STEP - r) * corner(k) + r * corner(k + 1)) / STEP;
         }
 
         int traceWeight() {
             return super.traceWeight() + 10;
-        }
-
-        private int between(int k, int r) {
-            return ((STEP - r) * corner(k) + r * corner(k + 1)) / STEP;
         }
 
         /** Behind the last corner there is none; it is asked for with the weight 0 alone. */
@@ -625,7 +623,7 @@ public final class ColdWorks {
             return true;
         }
 
-        int tell(int what) {
+        int fact(int what) {
             switch (what) {
                 case 0:
                     return how;
@@ -650,7 +648,7 @@ public final class ColdWorks {
             return zero.how == Adsorber.ON || one.how == Adsorber.ON;
         }
 
-        void goOn() {
+        void regenerate() {
             step(zero);
             step(one);
         }
@@ -685,9 +683,9 @@ public final class ColdWorks {
         int tell(int a, int what) {
             switch (a) {
                 case 0:
-                    return zero.tell(what);
+                    return zero.fact(what);
                 case 1:
-                    return one.tell(what);
+                    return one.fact(what);
                 default:
                     return BAD;
             }

@@ -15,6 +15,7 @@ public final class ExchangerTest {
         heatRefused();
         flowCellByCell();
         flowOfOneCell();
+        flowOfEightCells();
         noCooler();
         liquidRounded();
         liquidAtMost();
@@ -206,6 +207,18 @@ public final class ExchangerTest {
         heats("behind flow 2", x, new long[] {120, 539, 60 - 19, 2});
         Due.is("the third flow makes", x.tick(1), 16);
         heats("behind flow 3", x, new long[] {180, 619, 41 - 20, 3});
+    }
+
+    private static void flowOfEightCells() {
+        ColdWorks x = new ColdWorks();
+        x.cells(8, 50);
+        x.set(2, 100);
+        x.start();
+        x.tick(3);
+        int[] warm = {100, 200, 250, 300, 300, 300, 300, 300};
+        int[] cold = {250, 300, 300, 300, 300, 300, 300, 300};
+        sides("eight cells", x, warm, cold);
+        heats("eight cells", x, new long[] {300, 300 + 200 + 200, 0, 3});
     }
 
     private static void noCooler() {
