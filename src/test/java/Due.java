@@ -7,10 +7,14 @@ final class Due {
     }
 
     static void is(String call, long got, long want) {
+        is("", call, got, want);
+    }
+
+    static void is(String when, String call, long got, long want) {
         asked++;
         if (got != want) {
             wrong++;
-            System.out.println(call + " answered " + got + ", due is " + want);
+            System.out.println(when + call + " answered " + got + ", due is " + want);
         }
     }
 

@@ -68,4 +68,57 @@ final class Setups {
         x.tick(3);
         x.reset();
     }
+
+    /**
+     * Works in which nothing is as at first any more, in the state that is asked for: three coolers, orders of each
+     * kind, a lost meter, gas in the bag, an adsorber that is heated or cooled, ticks of the state behind them.
+     */
+    static ColdWorks busy(int state) {
+        ColdWorks x = new ColdWorks();
+        x.cooler(1, 50, 50, 50, 50, 50, 0);
+        x.cooler(0, 0, 0, 0, 0, 0, 0);
+        x.cooler(2, 1, 2, 4, 7, 50, 30);
+        x.cold(2, 40);
+        x.set(0, 0);
+        x.set(1, 40);
+        x.set(2, 60);
+        x.cells(1, 1);
+        x.set(3, 10);
+        x.start();
+        x.tick(2);
+        settle(x);
+        x.order(4, 0);
+        x.order(400, 0);
+        x.order(2, 8);
+        x.deliver();
+        x.lose(1, true);
+        x.set(4, 5);
+        x.set(5, 9);
+        x.cells(2, 30);
+        x.start();
+        x.tick(3);
+        x.set(3, 300);
+        x.set(4, 30);
+        lead(x, state);
+        return x;
+    }
+
+    private static void lead(ColdWorks x, int state) {
+        if (state == ColdWorks.COOLING) {
+            return;
+        }
+        x.tick(2);
+        if (state == ColdWorks.LOW) {
+            x.low();
+            x.tick(1);
+        }
+        if (state == ColdWorks.TRIPPED || state == ColdWorks.STOPPED) {
+            x.trip();
+            x.tick(1);
+        }
+        if (state == ColdWorks.STOPPED) {
+            x.tick(2);
+            x.reset();
+        }
+    }
 }
