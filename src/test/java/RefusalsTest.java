@@ -362,7 +362,6 @@ public final class RefusalsTest {
 
     /** "STATE: .. the TANK no room for it", with 5 in the bag. */
     private static void backBeyondTheRoom() {
-        // In COOLING the tank has 6, so its room can't be as small as this.
         for (int state : new int[] {0, 2, 3, 4}) {
             for (int room = 0; room <= 4; room++) {
                 int r = room;
@@ -375,6 +374,17 @@ public final class RefusalsTest {
             }
             Due.is("room for 5: back(5)", roomFor(state, 5).back(5), Setups.busy(state).count(1) + 5);
         }
+        Twins.refused("COOLING, full: back(1)", RefusalsTest::coolingAndFull, x -> x.back(1), ColdWorks.STATE);
+    }
+
+    /** In COOLING the busy works have 6 in the tank, which is below the least room: 4 of the bag's 5 fill it. */
+    private static ColdWorks coolingAndFull() {
+        ColdWorks x = Setups.busy(ColdWorks.COOLING);
+        x.set(3, 10);
+        x.back(4);
+        Due.is("COOLING, full: count(1)", x.count(1), 10);
+        Due.is("COOLING, full: count(2)", x.count(2), 1);
+        return x;
     }
 
     private static ColdWorks sixCoolers(int state) {
