@@ -1,12 +1,20 @@
+import java.io.IOException;
 import java.lang.reflect.Constructor;
 import java.lang.reflect.Field;
 import java.lang.reflect.Member;
 import java.lang.reflect.Method;
 import java.lang.reflect.Modifier;
+import java.nio.file.Files;
+import java.nio.file.Path;
+import java.util.List;
 import java.util.Set;
 import java.util.TreeSet;
+import java.util.stream.Collectors;
 
-/** The public face: its constants, its constructor, its methods, and no other member that is not private. */
+/**
+ * The public face: its constants, its constructor, its methods, and no other member that is not private. It is run from
+ * the project's directory.
+ */
 public final class FaceTest {
     private static final Set<String> METHODS = Set.of(
         "int cooler(int,int,int,int,int,int,int)", "int cold(int,int)", "int cells(int,int)", "int set(int,int)",
@@ -17,12 +25,30 @@ public final class FaceTest {
     private static final Set<String> CONSTANTS = Set.of(
         "BAD", "STATE", "FULL", "NONE", "STOPPED", "COOLING", "RUNNING", "LOW", "TRIPPED");
 
-    public static void main(String[] args) {
+    public static void main(String[] args) throws IOException {
+        wordForWord();
         constants();
         classAndConstructor();
         methods();
         fields();
         Due.end("FaceTest");
+    }
+
+    /** The document's face with its order and the names of its parameters, which a compiled class does not keep. */
+    private static void wordForWord() throws IOException {
+        List<String> face = publicLines(Path.of("../shared/DOC.md"));
+        List<String> ours = publicLines(Path.of("src/main/java/ColdWorks.java"));
+        Due.is("lines of the face", ours.size(), 1 + 2 + 1 + METHODS.size());
+        for (int i = 0; i < Math.max(face.size(), ours.size()); i++) {
+            String told = i < face.size() ? face.get(i) : "no line";
+            String stands = i < ours.size() ? ours.get(i) : "no line";
+            Due.is("the face's " + told + " stands as " + stands, told.equals(stands) ? 0 : 1, 0);
+        }
+    }
+
+    private static List<String> publicLines(Path file) throws IOException {
+        return Files.readString(file).lines().map(String::strip).filter(line -> line.startsWith("public "))
+            .map(line -> line.replaceAll("(;| \\{)$", "")).collect(Collectors.toList());
     }
 
     private static void constants() {
